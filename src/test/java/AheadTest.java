@@ -107,7 +107,22 @@ public final class AheadTest {
             int deed = trust == 0 ? (own > 0 ? 3 : 0) : content ? 1 : own > 0 ? 2 : 0;
             Check.due(seed + ": content", x.content(side), content ? 1 : 0);
             Check.due(seed + ": does", x.does(side), deed);
+            Check.due(seed + ": less", x.less(side), deed == 2 ? dearestByHand(x, side) : Check.NONE);
         }
+    }
+
+    private static int dearestByHand(HedgeHeaps x, int side) {
+        int dearest = -1;
+        int most = -1;
+        for (int t = 4; t >= 0; t--) {
+            int n = x.of(side, t, Check.HEAP);
+            int last = n == 0 ? -2 : priceByHand(x, side, t, n) - priceByHand(x, side, t, n - 1);
+            if (last >= most) {
+                dearest = t;
+                most = last;
+            }
+        }
+        return dearest;
     }
 
     private static void nightsAhead(int seed) {

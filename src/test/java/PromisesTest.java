@@ -354,6 +354,12 @@ public final class PromisesTest {
         x.side(0, 1, 1);
         x.change(1, 0, HEAP, 50);
         due("content", x.less(0), NONE);
+        HedgeHeaps y = new HedgeHeaps();
+        y.change(1, 0, HEAP, 1);
+        y.change(1, 0, WORTH, 9);
+        y.change(1, 3, HEAP, 50);
+        y.side(1, 0, 50);
+        due("thing 0 is dearest", y.less(1), 0);
         due("less(-1)", x.less(-1), BEYOND);
         due("less(2)", x.less(2), BEYOND);
     }
@@ -563,6 +569,13 @@ public final class PromisesTest {
         due("ahead(2, 3)", x.ahead(2, 3), 2 * 2 - 5 * 5 + 5);
         due("ahead(2, 4)", x.ahead(2, 4), 2 * 8 - 2 * 2);
         due("ahead(60, 4)", x.ahead(60, 4), 2 * 8 - 2 * 2);
+        HedgeHeaps y = new HedgeHeaps();
+        y.kind(0, 1);
+        y.lay(1, 0, 3);
+        y.side(0, 0, 50);
+        y.nights(1);
+        y.change(1, 0, HEAP, 3);
+        due("what was eaten before doesn't count", y.count(4) * 10 + y.ahead(1, 2), 11);
         due("nothing changes: NIGHT", x.now(0), 0);
         due("nothing changes: BOOKS", x.now(4), 0);
         due("nothing changes: HEAPS", x.now(1) + x.now(2), 7);
@@ -607,6 +620,11 @@ public final class PromisesTest {
     private static void empty() {
         HedgeHeaps x = new HedgeHeaps();
         due("at once", x.empty(), 0);
+        x.side(0, 0, 50);
+        x.lay(1, 0, 1);
+        due("only side 1's", x.empty(), 2);
+        x.back(1, 0, 1);
+        x.side(0, 0, 2);
         x.lay(0, 0, 1);
         due("side 0 takes it home", x.empty(), 1);
         x.lay(0, 0, 2);
@@ -665,6 +683,19 @@ public final class PromisesTest {
         x.side(0, 1, 0);
         due("no trust", x.best(0, 1), STATE);
         x.side(0, 1, 1);
+        HedgeHeaps y = new HedgeHeaps();
+        y.nights(1);
+        y.change(1, 3, HEAP, 2);
+        y.change(1, 3, WORTH, 20);
+        y.side(1, 0, 5);
+        for (int t = 0; t < 3; t++) {
+            y.change(0, t, WORTH, 0);
+        }
+        // Side 1 wants 45 for its two: nine of worth 5, of no worth to side 0.
+        due("all nine", y.best(0, 1), 63);
+        due("gain", y.gain(0, 1), 10);
+        y.side(1, 0, 6);
+        due("nine are too few", y.best(0, 1), 0);
         due("best(-1, 1)", x.best(-1, 1), BEYOND);
         due("best(2, 1)", x.best(2, 1), BEYOND);
         due("best(0, 0)", x.best(0, 0), BEYOND);
@@ -715,6 +746,17 @@ public final class PromisesTest {
         // Greed 1 to 6: one away, then side 1 one away (4 left, 16 for 10): taken in night 2, 6 more.
         due("waiting is better", y.greed(0, 3), 1);
         due("not in two nights", y.greed(0, 2), 0);
+        HedgeHeaps z = new HedgeHeaps();
+        z.change(0, 0, HEAP, 14);
+        z.change(0, 0, WORTH, 6);
+        z.change(1, 1, HEAP, 24);
+        z.change(1, 0, WORTH, 0);
+        z.side(1, 0, 50);
+        // In its k-th night (from 0) side 0 sees 24 - k of worth 5 for 14 - k of worth 6: 36 + k more.
+        due("50 in night 28", z.greed(0, 29), 50);
+        due("49 in night 26", z.greed(0, 28), 49);
+        due("36 at once", z.greed(0, 2), 0);
+        due("37 in night 2", z.greed(0, 3), 37);
     }
 
     /** The same by setting each GREED and looking AHEAD. */
@@ -800,6 +842,9 @@ public final class PromisesTest {
         due("both gain", x.bundle(), 21);
         x.change(1, 3, WORTH, 6);
         due("the first of several", x.bundle(), 21);
+        x.change(0, 0, WORTH, 6);
+        due("thing 0 from side 1", x.bundle(), 20);
+        x.change(0, 0, WORTH, 5);
         x.change(1, 3, WORTH, 7);
         due("the greatest sum", x.bundle(), 31);
         x.change(0, 3, HOME, 0);
@@ -888,6 +933,19 @@ public final class PromisesTest {
         due("none fits", x.fits(0, 1), 1 << 20 | 1 << 19 | 1 << 18 | 1 << 17 | 1 << 16);
         x.side(0, 0, 50);
         due("none fits at all", x.fits(0, 1), 0);
+        HedgeHeaps f = new HedgeHeaps();
+        f.kind(1, 2);
+        f.frost(3);
+        f.side(0, 1, 1);
+        f.lay(1, 1, 2);
+        f.lay(0, 0, 2);
+        // Cloth of worth 5 is 8 in frost 3: 16 for 10, more by 2; it would do with worth 3.
+        due("cloth in frost, little trust", f.nights(1), 1);
+        f.frost(0);
+        due("frost as it was then", f.fits(0, 1), all & ~7);
+        f.kind(1, 0);
+        due("a thing needs 6", f.fits(0, 1), all & ~63);
+        due("what it gave then", f.fits(0, 0), 31);
         HedgeHeaps y = new HedgeHeaps();
         y.side(0, 1, 0);
         y.lay(1, 1, 4);

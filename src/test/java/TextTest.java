@@ -36,6 +36,15 @@ public final class TextTest {
         Check.due("trust", x.side(0, 1, 0), 3);
         Check.due("blanks", Check.tell(x, "   frost   7   "), 1);
         Check.due("frost", x.now(5), 7);
+        String noughts = "side 0 greed 0 trust 0;home 0 0 0;heap 0 0 0;worth 0 0 0;frost 0;thing 0";
+        x.change(0, 0, Check.HEAP, 3);
+        Check.due("noughts", Check.tell(x, noughts), 6);
+        Check.due("greed", x.side(0, 0, 2), 0);
+        Check.due("trust", x.side(0, 1, 2), 0);
+        Check.due("frost", x.now(5), 0);
+        for (int what = 0; what < 3; what++) {
+            Check.due("of 0", x.of(0, 0, what), 0);
+        }
         Check.due("leading noughts", Check.tell(x, "frost 0000000000000000000000000008"), 1);
         Check.due("frost", x.now(5), 8);
     }
@@ -73,6 +82,18 @@ public final class TextTest {
         fault("fRost 1", 0);
         fault("frosty 1", 0);
         fault("fros 1", 0);
+        fault("frostz 1", 0);
+        fault("azfrost 1", 0);
+        fault("cool 1", 0);
+        fault("toil 1", 0);
+        fault("tooo 1", 0);
+        fault("side 0 breed 1", 7);
+        fault("side 0 grees 1", 7);
+        fault("frost 1{", 7);
+        fault("frost 1`", 7);
+        fault("frost 1/", 7);
+        fault("frost 1:", 7);
+        fault("frost :", 6);
         fault("frost1x", 6);
         fault("frost x", 6);
         fault("frost \u00e9", 6);
@@ -124,6 +145,14 @@ public final class TextTest {
         Check.due("worth", x.of(0, 2, Check.WORTH), 5);
         Check.due("greed", x.side(1, 0, 2), 2);
         Check.due("trust", x.side(1, 1, 5), 5);
+        Check.due("what the FAULTY one told is forgotten", Check.tell(x, "frost 2"), 1);
+        Check.due("kind", x.kind(0, 0), 0);
+        Check.due("home", x.of(0, 0, Check.HOME), 10);
+        x.image();
+        x.nights(3);
+        Check.due("nor does a text look AHEAD", x.struck(), Check.NONE);
+        Check.due("a text keeps the night", Check.tell(x, "frost 3"), 1);
+        Check.due("night", x.now(0), 3);
     }
 
     private static void manyItems() {
