@@ -180,5 +180,10 @@ public final class TextTest {
         Check.due("home", x.of(0, 0, Check.HOME), 1);
         Check.due("a shorter one", Check.tell(x, "home 0 0"), -9);
         Check.due("a shorter one", Check.tell(x, "ho"), -1);
+        Check.due("a longer word", Check.tell(x, "frosts 1"), -1);
+        Check.due("a shorter one", Check.tell(x, "frost"), -6);
+        Check.due("letters to the end", Check.tell(x, "frost 1;" + "a".repeat(112)), -9);
+        Check.due("digits to the end", Check.tell(x, "frost 1" + "0".repeat(113)), -7);
+        Check.due("blanks to the end", Check.tell(x, "frost 1;" + " ".repeat(112)), -121);
     }
 }
