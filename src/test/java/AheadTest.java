@@ -61,11 +61,12 @@ public final class AheadTest {
     private static int priceByHand(HedgeHeaps x, int side, int thing, int n) {
         int kind = kindOf(x, thing);
         int worth = x.of(side, thing, Check.WORTH);
+        int frost = x.now(5);
         int price = 0;
         for (int i = 0; i < n; i++) {
             price += isUnder(kind, 5) && i > 0 ? worth / 2 : worth;
-            price += isUnder(kind, 2) ? x.now(5) : 0;
-            price += isUnder(kind, 4) ? x.now(5) : 0;
+            price += isUnder(kind, 2) ? frost : 0;
+            price += isUnder(kind, 4) ? frost : 0;
             price += isUnder(kind, 6) && i == 0 ? 3 : 0;
         }
         return price;
@@ -286,21 +287,20 @@ public final class AheadTest {
         }
         int side = dice.next(2);
         int thing = dice.next(5);
-        int was = x.of(side, thing, Check.WORTH);
+        int[] mind = mind(x, side);
         int set = 0;
         for (int w = 0; w <= 20; w++) {
-            x.change(side, thing, Check.WORTH, w);
-            set |= fitsAll(x, side, kept) ? 1 << w : 0;
+            HedgeHeaps y = minded(mind, side);
+            y.change(side, thing, Check.WORTH, w);
+            set |= fitsAll(y, side, kept) ? 1 << w : 0;
         }
-        x.change(side, thing, Check.WORTH, was);
         Check.due(seed + ": fits", x.fits(side, thing), set);
-        int greed = x.side(side, 0, 0);
         set = 0;
         for (int g = 0; g <= 30; g++) {
-            x.side(side, 0, g);
-            set |= fitsAll(x, side, kept) ? 1 << g : 0;
+            HedgeHeaps y = minded(mind, side);
+            y.side(side, 0, g);
+            set |= fitsAll(y, side, kept) ? 1 << g : 0;
         }
-        x.side(side, 0, greed);
         Check.due(seed + ": greeds", x.greeds(side), set);
         int known = 0;
         for (int t = 1; t < 5; t++) {
@@ -324,19 +324,38 @@ public final class AheadTest {
         return s;
     }
 
+    /** The KINDS that x has, and WORTHS and GREED of a side. */
+    private static int[] mind(HedgeHeaps x, int side) {
+        int[] m = new int[11];
+        for (int t = 0; t < 5; t++) {
+            m[t] = kindOf(x, t);
+            m[5 + t] = x.of(side, t, Check.WORTH);
+        }
+        m[10] = x.side(side, 0, 0);
+        x.side(side, 0, m[10]);
+        return m;
+    }
+
+    /** A new one of which that side is so minded. */
+    private static HedgeHeaps minded(int[] mind, int side) {
+        HedgeHeaps y = new HedgeHeaps();
+        for (int t = 0; t < 5; t++) {
+            y.kind(t, mind[t]);
+            y.change(side, t, Check.WORTH, mind[5 + t]);
+        }
+        y.side(side, 0, mind[10]);
+        return y;
+    }
+
     /** Whether a side would have done in all nights that are still in books what it did. */
-    private static boolean fitsAll(HedgeHeaps x, int side, int[][] kept) {
+    private static boolean fitsAll(HedgeHeaps y, int side, int[][] kept) {
         boolean fits = true;
-        int[] now = snapshot(x);
-        int trust = x.side(side, 1, 1);
         for (int i = Math.max(0, kept.length - 12); i < kept.length; i++) {
             if (kept[i][12] == side && kept[i][11] > 0) {
-                setHeaps(x, kept[i]);
-                fits &= x.does(side) == kept[i][13];
+                setHeaps(y, kept[i]);
+                fits &= y.does(side) == kept[i][13];
             }
         }
-        setHeaps(x, now);
-        x.side(side, 1, trust);
         return fits;
     }
 

@@ -4,7 +4,8 @@
  */
 public final class RandomRunsTest {
     private static final int RUNS = 1500;
-    private static final int CALLS_IN_A_RUN = 300;
+    private static final int CALLS_IN_A_RUN = 250;
+    private static final int OBJECTS = 200;
     private static final int ASKS = 0;
 
     public static void main(String[] args) {
@@ -73,19 +74,22 @@ public final class RandomRunsTest {
     private static void callsMakeNothing() {
         com.sun.management.ThreadMXBean room =
             (com.sun.management.ThreadMXBean) java.lang.management.ManagementFactory.getThreadMXBean();
-        HedgeHeaps x = new HedgeHeaps();
-        int[][] calls = new int[100000][];
+        HedgeHeaps[] objects = new HedgeHeaps[OBJECTS];
+        int[][] calls = new int[OBJECTS * 512][];
         Dice dice = new Dice(-1);
         for (int i = 0; i < calls.length; i++) {
+            if (i % 512 == 0) {
+                objects[i / 512] = new HedgeHeaps();
+            }
             calls[i] = dice.call();
         }
         long id = Thread.currentThread().getId();
         room.getThreadAllocatedBytes(id);
         long before = room.getThreadAllocatedBytes(id);
         for (int i = 0; i < calls.length; i++) {
-            Dice.make(x, calls[i]);
+            Dice.make(objects[i / 512], calls[i]);
         }
         long made = room.getThreadAllocatedBytes(id) - before;
-        Check.holds("100000 calls made " + made + " bytes", made < 4096);
+        Check.holds(calls.length + " calls made " + made + " bytes", made < 4096);
     }
 }
