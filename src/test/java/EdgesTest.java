@@ -36,7 +36,7 @@ public final class EdgesTest {
         promise = "25 kindFor"; kindFor();
         promise = "26 temptation"; temptation();
         promise = "27 bundle"; bundleEnds(); bundleGains(); bundleAtHome();
-        promise = "29 fits"; fits();
+        promise = "29 fits"; fits(); fitsOfEach();
         promise = "30 greeds"; greeds();
         promise = "31 known"; known();
         promise = "32 season"; seasonAsManyTimes(); seasonIfItMay();
@@ -47,7 +47,7 @@ public final class EdgesTest {
         promise = "41 copy"; copyAsTheyAllWere(); copyOfBits();
         promise = "42 load"; load();
         promise = "43 judge"; judge();
-        promise = "44 to 46 images"; images(); imageHoldsAllButTapeAndSheets();
+        promise = "44 to 46 images"; images(); imageHoldsAllButTapeAndSheets(); imageHoldsAllBooks();
         promise = "47 count"; count();
         promise = "48 status"; status();
         Check.end("EdgesTest");
@@ -429,6 +429,13 @@ public final class EdgesTest {
         z.side(1, GREED, 50);
         // In its k-th night (from 0) side 0 sees 24 - k of worth 5 for 14 - k of worth 6: 36 + k more.
         due("the most GREED is best", z.greed(0, 29), 50);
+        z.change(1, 1, HEAP, 23);
+        z.change(1, 2, HEAP, 1);
+        z.change(1, 2, WORTH, 0);
+        z.change(0, 2, WORTH, 6);
+        // One of 6 among them, which side 1 takes away last: 37 + k more, 51 with k 14.
+        due("51 would be better, but isn't one", z.greed(0, 29), 50);
+        due("not so far", z.greed(0, 26), 49);
         due("nothing changes", z.side(0, GREED, 2), 2);
     }
 
@@ -570,6 +577,23 @@ public final class EdgesTest {
         z.change(0, 0, HEAP, 1);
         z.nights(2);
         due("3 without TRUST fits any", z.fits(0, 1), 1);
+    }
+
+    private static void fitsOfEach() {
+        for (int place = 0; place < 10; place++) {
+            int side = place / 5;
+            HedgeHeaps x = new HedgeHeaps();
+            x.nights(2 + side);
+            x.change(1 - side, place % 5, HEAP, 2);
+            x.side(side, GREED, 10);
+            due("two of 5 for GREED 10", x.nights(1), 1);
+            for (int other = 0; other < 10; other++) {
+                due("5 and more of that one, any of all others", x.fits(other / 5, other % 5),
+                    other == place ? ALL_WORTHS - 31 : ALL_WORTHS);
+            }
+            due("that is known best", x.known(side), place % 5);
+            due("of the other side nothing", x.known(1 - side), 0);
+        }
     }
 
     private static void greeds() {
@@ -882,6 +906,38 @@ public final class EdgesTest {
         y.feed(';', 1);
         y.image();
         Whole.same("but THE TAPE and SHEETS", x, y);
+    }
+
+    /** As many things in side 0's or side 1's HEAP as the night tells, so that each NIGHT in BOOKS is another. */
+    private static void goCountedNights(HedgeHeaps x, int from, int to) {
+        for (int night = from; night < to; night++) {
+            x.change(night % 2, 3, HEAP, 1 + night);
+            x.nights(1);
+            x.change(night % 2, 3, HEAP, 0);
+        }
+    }
+
+    private static void imageHoldsAllBooks() {
+        for (int kept : new int[] {1, 11, 12, 13, 17, 24, 25}) {
+            HedgeHeaps x = new HedgeHeaps();
+            x.side(0, GREED, 50);
+            x.side(1, GREED, 50);
+            goCountedNights(x, 0, kept);
+            x.image();
+            goCountedNights(x, kept + 20, kept + 33);
+            due("undo", x.undo(), kept);
+            int stand = Math.min(12, kept);
+            due("how many", x.now(4), stand);
+            for (int i = 0; i < stand; i++) {
+                int night = kept - 1 - i;
+                due("whose", x.book(i, 1), night % 2);
+                due("its HEAP", x.book(i, 5), 1 + night);
+            }
+            due("no more", x.book(stand, 0), Check.NONE);
+            x.nights(1);
+            due("one more", x.book(0, 5), 0);
+            due("the latest before", x.book(1, 5), kept);
+        }
     }
 
     private static void count() {

@@ -33,7 +33,7 @@ public final class TermsTest {
         sentence = "2 TAKES"; takesTo99(); takesTrustTo9(); takesWithoutOwn();
         sentence = "2 LESS"; lessOfSeveral(); lessHomeIsFull(); lessOfTheLast(); nothingWithoutHeap();
         sentence = "2 TRUST 0"; withdraws(); withdrawsTo99(); trustOneIsTrust();
-        sentence = "2 birds"; birdsEatWhatThereIs(); birdsComeBehindTheDeed(); birdsInFrost();
+        sentence = "2 birds"; birdsEatWhatThereIs(); birdsComeToEachHeap(); birdsComeBehindTheDeed(); birdsInFrost();
         sentence = "2 BOOKS"; booksHoldTwelve(); booksKeepAsItWas();
         sentence = "2 DRAWS"; drawsWrapAround();
         sentence = "3 THE TAPE"; tapeHolds120(); tapeIsEmptyBehindText();
@@ -494,6 +494,31 @@ public final class TermsTest {
             due("eaten ever", x.count(4), k[1] - k[2]);
             due("none at HOME", x.of(1, 2, HOME) + x.of(0, 2, HOME), 20);
         }
+    }
+
+    private static void birdsComeToEachHeap() {
+        for (int place = 0; place < 10; place++) {
+            HedgeHeaps x = new HedgeHeaps();
+            x.kind(place % 5, MEAT);
+            x.change(place / 5, place % 5, HEAP, 9);
+            x.change(place / 5, place % 5, WORTH, 0);
+            x.side(1 - place / 5, TRUST, 0);
+            // In its own night a side takes one HOME before.
+            due("two nights AHEAD", x.ahead(2, 1), 4);
+            x.nights(2);
+            due("what is left at place " + place, x.of(place / 5, place % 5, HEAP), 4);
+            due("eaten ever", x.count(4), 4);
+        }
+        HedgeHeaps x = new HedgeHeaps();
+        for (int place = 0; place < 10; place++) {
+            x.kind(place % 5, FOOD);
+            x.change(place / 5, place % 5, HEAP, 1 + place % 2);
+        }
+        x.side(0, TRUST, 0);
+        x.side(1, TRUST, 0);
+        x.nights(1);
+        due("of all five of side 1 one each, side 0's are HOME", x.count(4), 5);
+        due("left", x.now(2), 3);
     }
 
     /** What came HOME isn't eaten; what is left in either HEAP is. */
