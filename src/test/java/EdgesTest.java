@@ -30,16 +30,16 @@ public final class EdgesTest {
         promise = "19 ahead"; aheadNone(); aheadSixty();
         promise = "20 struck"; struck();
         promise = "21 empty"; empty();
-        promise = "22 best"; bestOfLeastAndMost(); bestOfAsManyAsItHas(); bestTakesHomeFirst(); bestOfSeveral();
+        promise = "22 best"; bestOfLeastAndMost(); bestOfSideOne(); bestOfAsManyAsItHas(); bestTakesHomeFirst(); bestOfSeveral();
         promise = "23 gain"; gain();
-        promise = "24 greed"; greed();
+        promise = "24 greed"; greed(); greedOfSideOne();
         promise = "25 kindFor"; kindFor();
         promise = "26 temptation"; temptation();
         promise = "27 bundle"; bundleEnds(); bundleGains(); bundleAtHome();
         promise = "29 fits"; fits(); fitsOfEach();
-        promise = "30 greeds"; greeds();
+        promise = "30 greeds"; greeds(); greedsOfSideOne(); trustOfSideOne();
         promise = "31 known"; known();
-        promise = "32 season"; seasonAsManyTimes(); seasonIfItMay();
+        promise = "32 season"; seasonAsManyTimes(); seasonIfItMay(); seasonFrost();
         promise = "33 seed"; seed();
         promise = "34 feed"; feed();
         promise = "35 wipe"; wipe();
@@ -47,7 +47,7 @@ public final class EdgesTest {
         promise = "41 copy"; copyAsTheyAllWere(); copyOfBits();
         promise = "42 load"; load();
         promise = "43 judge"; judge();
-        promise = "44 to 46 images"; images(); imageHoldsAllButTapeAndSheets(); imageHoldsAllBooks();
+        promise = "44 to 46 images"; images(); imageHoldsWhatWasEver(); imageHoldsAllButTapeAndSheets(); imageHoldsAllBooks();
         promise = "47 count"; count();
         promise = "48 status"; status();
         Check.end("EdgesTest");
@@ -303,15 +303,22 @@ public final class EdgesTest {
 
     /** Side 1 wants so much for what is worth 20 to side 0; side 0's own things are worth nothing to it. */
     private static HedgeHeaps asking(int greed) {
+        return askingOf(1, greed);
+    }
+
+    /** The same of that side; the next night is its own. */
+    private static HedgeHeaps askingOf(int owner, int greed) {
         HedgeHeaps x = new HedgeHeaps();
-        x.nights(1);
-        x.change(1, 4, HEAP, 1);
-        x.change(1, 4, WORTH, 0);
-        x.change(0, 4, WORTH, 20);
-        for (int t = 0; t < 3; t++) {
-            x.change(0, t, WORTH, 0);
+        if (owner == 1) {
+            x.nights(1);
         }
-        x.side(1, GREED, greed);
+        x.change(owner, 4, HEAP, 1);
+        x.change(owner, 4, WORTH, 0);
+        x.change(1 - owner, 4, WORTH, 20);
+        for (int t = 0; t < 3; t++) {
+            x.change(1 - owner, t, WORTH, 0);
+        }
+        x.side(owner, GREED, greed);
         return x;
     }
 
@@ -331,6 +338,21 @@ public final class EdgesTest {
         HedgeHeaps x = new HedgeHeaps();
         due("30 nights, nothing to gain", x.best(1, 30), 0);
         due("no gain", x.gain(1, 30), 0);
+    }
+
+    private static void bestOfSideOne() {
+        due("two of thing 0", askingOf(0, 6).best(1, 1), 2);
+        due("gain", askingOf(0, 6).gain(1, 1), 20);
+        due("side 0 loses nothing by it", askingOf(0, 6).gain(0, 1), 0);
+        due("all nine", askingOf(0, 45).best(1, 1), 63);
+        due("nine aren't enough", askingOf(0, 46).gain(1, 1), 0);
+        HedgeHeaps x = askingOf(0, 6);
+        for (int t = 0; t < 3; t++) {
+            x.change(0, t, HOME, 0);
+        }
+        due("what side 0 has doesn't count", x.best(1, 1), 2);
+        x.change(1, 0, HOME, 1);
+        due("what side 1 has does: one of 0, one of 1", x.best(1, 1), 5);
     }
 
     private static void bestOfAsManyAsItHas() {
@@ -437,6 +459,22 @@ public final class EdgesTest {
         due("51 would be better, but isn't one", z.greed(0, 29), 50);
         due("not so far", z.greed(0, 26), 49);
         due("nothing changes", z.side(0, GREED, 2), 2);
+    }
+
+    private static void greedOfSideOne() {
+        HedgeHeaps x = new HedgeHeaps();
+        x.nights(1);
+        x.change(1, 0, HEAP, 14);
+        x.change(1, 0, WORTH, 6);
+        x.change(0, 1, HEAP, 24);
+        x.change(0, 0, WORTH, 0);
+        x.side(0, GREED, 50);
+        // In its k-th night from now (from 0) side 1 sees 24 - k of worth 5 for 14 - k of worth 6: 36 + k more.
+        due("the most GREED is best", x.greed(1, 29), 50);
+        due("49 in night 26", x.greed(1, 28), 49);
+        due("37 in night 2", x.greed(1, 3), 37);
+        due("36 at once", x.greed(1, 2), 0);
+        due("nothing changes", x.side(1, GREED, 2) + x.side(0, GREED, 2), 52);
     }
 
     private static void kindFor() {
@@ -619,6 +657,39 @@ public final class EdgesTest {
         due("5 for 6: none", y.greeds(0), 0);
     }
 
+    private static void greedsOfSideOne() {
+        HedgeHeaps x = new HedgeHeaps();
+        x.nights(1);
+        x.change(0, 0, HEAP, 6);
+        x.side(1, GREED, 50);
+        x.nights(1);
+        due("nothing, though 30: none of 31", x.greeds(1), 0);
+        due("side 0 did nothing before", x.greeds(0), Integer.MAX_VALUE);
+        x.change(1, 0, WORTH, 4);
+        due("24 isn't enough: 25 to 30", x.greeds(1), 63 << 25);
+        x.change(0, 0, WORTH, 9);
+        due("by its own WORTHS", x.greeds(1), 63 << 25);
+    }
+
+    /** Of a NIGHT of side 1 it is the TRUST of side 1 that stands in BOOKS. */
+    private static void trustOfSideOne() {
+        HedgeHeaps x = new HedgeHeaps();
+        x.nights(1);
+        x.side(1, TRUST, 0);
+        x.change(1, 3, HEAP, 2);
+        due("side 1 takes its own HOME", x.nights(1) + x.book(0, 0), 3);
+        x.side(1, TRUST, 5);
+        due("without TRUST any fits", x.fits(1, 3), ALL_WORTHS);
+        due("any GREED, too", x.greeds(1), Integer.MAX_VALUE);
+        HedgeHeaps y = new HedgeHeaps();
+        y.nights(1);
+        y.side(0, TRUST, 0);
+        y.change(0, 3, HEAP, 1);
+        due("side 1 TAKES", y.nights(1), 1);
+        due("5 for nothing: GREED 0 to 5", y.greeds(1), 63);
+        due("GREED 2: 2 and more", y.fits(1, 3), ALL_WORTHS - 3);
+    }
+
     private static void known() {
         HedgeHeaps x = new HedgeHeaps();
         due("all alike: 0", x.known(0) + x.known(1), 0);
@@ -636,6 +707,15 @@ public final class EdgesTest {
         due("5 and more for both: the least", y.known(0), 2);
         y.side(0, GREED, 50);
         due("none fits for any: 0", y.known(0), 0);
+        HedgeHeaps z = new HedgeHeaps();
+        z.nights(1);
+        z.change(0, 0, HEAP, 1);
+        z.side(1, GREED, 0);
+        z.nights(1);
+        z.side(1, GREED, 20);
+        due("thing 0 with 20 alone", z.fits(1, 0), 1 << 20);
+        due("thing 1 with none, as 5 for thing 0 was too little", z.fits(1, 1), 0);
+        due("none is fewer than one", z.known(1), 1);
     }
 
     // ---- draws
@@ -668,6 +748,28 @@ public final class EdgesTest {
             due("three draws, though", x.count(6), 662824084);
             due("NIGHT, though", x.count(0), 2);
             due("no finding", x.status(-1), 0);
+        }
+    }
+
+    /** The FROST that is drawn is that of the two nights: z 1 draws 4, z 0 draws 8; in both side 0 lays one. */
+    private static void seasonFrost() {
+        for (int z = 0; z < 2; z++) {
+            HedgeHeaps x = new HedgeHeaps();
+            x.kind(3, 3);
+            x.kind(4, 4);
+            x.change(1, 3, HEAP, 5);
+            x.change(1, 4, HEAP, 1);
+            x.change(0, 4, WORTH, 0);
+            x.frost(z == 0 ? 0 : 9);
+            x.side(0, GREED, 50);
+            x.side(1, GREED, 50);
+            x.seed(z);
+            due("none is taken", x.season(1), 0);
+            due("FROST", x.now(5), z == 0 ? 8 : 4);
+            due("meat eaten in two nights", x.count(4), z == 0 ? 0 : 4);
+            // Five of meat and a fur of twice 8 or 4 for one of 5 weren't 20 more: meat is 1 or 3 at most.
+            x.side(0, GREED, 20);
+            due("FROST as it stands in BOOKS", x.fits(0, 3), z == 0 ? 3 : 15);
         }
     }
 
@@ -871,6 +973,27 @@ public final class EdgesTest {
         HedgeHeaps y = Whole.atNight(9999);
         y.image();
         due("the last night", y.undo(), 9999);
+    }
+
+    /** Bargains and things eaten "ever" are part of all that is kept. */
+    private static void imageHoldsWhatWasEver() {
+        HedgeHeaps x = new HedgeHeaps();
+        x.kind(0, 1);
+        x.change(1, 1, HEAP, 1);
+        x.nights(1);
+        x.change(0, 0, HEAP, 5);
+        x.side(1, GREED, 50);
+        x.nights(1);
+        due("kept: one bargain, one eaten", x.image() * 100 + x.count(1) * 10 + x.count(4), 111);
+        x.change(1, 1, HEAP, 9);
+        x.nights(2);
+        due("two bargains", x.count(1), 2);
+        x.change(0, 0, HEAP, 9);
+        x.nights(3);
+        due("more eaten", x.count(4), 4);
+        due("undo", x.undo(), 2);
+        due("one bargain", x.count(1) * 10 + x.now(6), 11);
+        due("one eaten", x.count(4), 1);
     }
 
     private static void imageHoldsAllButTapeAndSheets() {

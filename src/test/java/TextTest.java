@@ -45,6 +45,10 @@ public final class TextTest {
         for (int what = 0; what < 3; what++) {
             Check.due("of 0", x.of(0, 0, what), 0);
         }
+        Check.due("a side alone tells nothing, and is an ITEM", Check.tell(x, "side 0"), 1);
+        Check.due("so it is between others", Check.tell(x, "side1;frost 3;side0 ;side 1 "), 4);
+        Check.due("greed stays", x.side(0, 0, 2), 2);
+        Check.due("trust stays", x.side(0, 1, 2), 2);
         Check.due("leading noughts", Check.tell(x, "frost 0000000000000000000000000008"), 1);
         Check.due("frost", x.now(5), 8);
     }
